@@ -313,6 +313,26 @@ public final class NeedsTest {
         PromiseCheck.refused("-1998 by s", UnsupportedOperationException.class, () -> loom.script('s', 1, 0, -1));
         PromiseCheck.due("0 by s", 3, loom.script('s', 1, 0, 1));
         PromiseCheck.due("0", 0, loom.row(1, 1, 4));
+        for (int times = 0; times < 49; times++) {
+            loom.script('c', 0, 2, -20);
+        }
+        loom.script('c', 0, 2, -19);
+        PromiseCheck.due("-999 by c", -999, loom.row(0, 2, 4));
+        PromiseCheck.due("-999 by s", 3, loom.script('s', 1, 2, 1));
+        PromiseCheck.due("-999 there, too", -999, loom.row(0, 1, 4));
+        PromiseCheck.refused("-1000 by c once more", UnsupportedOperationException.class, () -> loom.script('c', 0, 1, -1));
+        Polyloom one = new Polyloom();
+        one.statement(1);
+        // Row 0 is i, row 1 is to be 5, 25 and so on times i: 3125 is beyond.
+        one.script('s', 1, 0, 5);
+        one.script('s', 2, 1, 5);
+        one.script('s', 1, 2, 5);
+        one.script('s', 2, 1, 5);
+        PromiseCheck.due("675 by s", 675, one.row(0, 2, 0));
+        PromiseCheck.refused("the first number of the only statement beyond", UnsupportedOperationException.class,
+            () -> one.script('s', 1, 2, 2));
+        PromiseCheck.due("130 still", 130, one.row(0, 1, 0));
+        PromiseCheck.due("805 by s", 3, one.script('s', 1, 2, 1));
     }
 
     private static void promise18ScriptWithout() {

@@ -4,6 +4,7 @@ public final class PointsTest {
         promise12Count();
         promise12MostPoints();
         promise12MostGoneThrough();
+        promise12GoneThroughByDepth();
         promise12MostNeeds();
         promise13Point();
         promise14Period();
@@ -65,6 +66,34 @@ public final class PointsTest {
         PromiseCheck.due("20000 gone through, and none", 540, loom.count(0));
         loom.parameter(1);
         PromiseCheck.refused("20001 gone through", IllegalStateException.class, () -> loom.count(1));
+    }
+
+    /** One number of each iterator but the last, which goes from -6980 or so to 13018 or so. */
+    private static Polyloom lastLong(int depth, int last) {
+        Polyloom loom = new Polyloom();
+        loom.statement(depth);
+        loom.parameter(30);
+        PromiseCheck.type(loom, 0, 0, 0, 20, 20);
+        loom.bound(0, 0, true);
+        PromiseCheck.type(loom, 0, 0, 0, 20, 20);
+        loom.bound(0, 0, false);
+        if (depth == 3) {
+            PromiseCheck.range(loom, 0, 1, 0, 0);
+        }
+        PromiseCheck.type(loom, -11, 0, 0, -5, -10);
+        loom.bound(0, depth - 1, true);
+        PromiseCheck.type(loom, 20, 0, 0, 20, last);
+        loom.bound(0, depth - 1, false);
+        PromiseCheck.type(loom, -20, depth == 2 ? 1 : 0, depth == 3 ? 1 : 0, -20, 0);
+        loom.guard(0, 0);
+        return loom;
+    }
+
+    private static void promise12GoneThroughByDepth() {
+        PromiseCheck.due("1 and 19999 gone through", 19, lastLong(2, 18).count(0));
+        PromiseCheck.refused("1 and 20000 gone through", IllegalStateException.class, () -> lastLong(2, 19).count(0));
+        PromiseCheck.due("1, 1 and 19998 gone through", 18, lastLong(3, 17).count(0));
+        PromiseCheck.refused("1, 1 and 19999 gone through", IllegalStateException.class, () -> lastLong(3, 18).count(0));
     }
 
     /** Unknown writes: of n points each needs each one ahead, by o; of writers of one cell each the one ahead. */
@@ -160,13 +189,11 @@ public final class PointsTest {
         PromiseCheck.refused("a period that the parameter 25 breaks", java.util.NoSuchElementException.class, () -> late.period(0));
         Polyloom early = new Polyloom();
         early.statement(1);
-        // None up to the parameter 7, then one more each time: broken by the parameter 6.
+        // None up to the parameter 6, or up to 7, then one more each time: this one is broken by the parameter 6.
         PromiseCheck.type(early, 0, 0, 0, 1, -7);
         early.bound(0, 0, false);
         early.statement(1);
-        PromiseCheck.type(early, 0, 0, 0, 1, -6);
-        early.bound(1, 0, false);
-        PromiseCheck.type(early, 0, 0, 0, 2, -14);
+        PromiseCheck.type(early, 0, 0, 0, 1, -8);
         early.bound(1, 0, false);
         PromiseCheck.due("period from the parameter 6 on", 1, early.period(0));
         PromiseCheck.refused("a period that the parameter 6 breaks", java.util.NoSuchElementException.class, () -> early.period(1));
@@ -266,5 +293,20 @@ public final class PointsTest {
         PromiseCheck.due("j of -1020 comes ahead of an absent one", 1, loom.first(3));
         PromiseCheck.due("its j", -1020, loom.first(1));
         PromiseCheck.due("its i", -20, loom.first(0));
+        for (int flat = 0; flat < 2; flat++) {
+            Polyloom tied = new Polyloom();
+            tied.statement(flat == 0 ? 1 : 2);
+            tied.statement(flat == 0 ? 2 : 1);
+            tied.place(1, 0, 0);
+            tied.parameter(30);
+            PromiseCheck.range(tied, 0, 0, 20, 20);
+            PromiseCheck.range(tied, 1, 0, 20, 20);
+            PromiseCheck.type(tied, -20, 0, 0, -20);
+            tied.bound(1 - flat, 1, true);
+            PromiseCheck.type(tied, -20, 0, 0, -20);
+            tied.bound(1 - flat, 1, false);
+            PromiseCheck.due("j of -1000 counts as an absent one: the statements' numbers", 0, tied.first(3));
+            PromiseCheck.due("the j of the statement 0", flat == 0 ? 0 : -1000, tied.first(1));
+        }
     }
 }

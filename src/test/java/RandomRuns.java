@@ -22,6 +22,7 @@ public final class RandomRuns {
     private int statements = 0;
     private final int[] depths = new int[5];
     private boolean isOff = false;
+    private boolean isBig = false;
 
     private RandomRuns(int run) {
         this.run = run;
@@ -100,6 +101,67 @@ public final class RandomRuns {
     }
 
     private void go() {
+        if (run % 10 == 0) {
+            findOften();
+        } else if (run % 20 == 11) {
+            goBig();
+        } else {
+            goAnyway();
+        }
+    }
+
+    /** Needs of a few constant differences, and what is found for them. */
+    private void findOften() {
+        for (int round = 0; round < 3 && statements < 5; round++) {
+            int depth = oneIn(4) ? 2 : 3;
+            call("parameter", from(2, 4));
+            call("statement", depth);
+            depths[statements] = depth;
+            statements++;
+            int s = statements - 1;
+            int array = oneIn(4) ? 0 : s % 4;
+            tellAccess(s, array, true, 0, 0, 0);
+            for (int reads = from(1, 3); reads > 0; reads--) {
+                tellAccess(s, array, false, from(-2, 2), from(-2, 2), depth > 2 ? from(-2, 2) : 0);
+                call("find");
+                for (int r = 0; r < 3; r++) {
+                    for (int number = 0; number < 3; number++) {
+                        call("row", s, r, number);
+                    }
+                }
+                call("isLegal");
+                call("band", 0);
+                call("band", 1);
+                call("carried", 0);
+                call("isSame");
+            }
+        }
+        askAnything(10);
+    }
+
+    /** The access of (i + a, 10 j + k + 10 b + c), in which no two points are alike. */
+    private void tellAccess(int s, int array, boolean isWrite, int a, int b, int c) {
+        type(new int[] {1, 0, 0, 0, a});
+        call("access", s, array, isWrite, false);
+        type(depths[s] > 2 ? new int[] {0, 6, 1, 0, 6 * b + c} : new int[] {0, 6, 0, 0, 6 * b});
+        call("access", s, array, isWrite, true);
+    }
+
+    /** Some thousand points, and fewer calls. */
+    private void goBig() {
+        isBig = true;
+        call("parameter", from(8, 12));
+        for (int s = from(1, 2); s > 0; s--) {
+            addStatement();
+        }
+        for (int round = 0; round < 5; round++) {
+            askAnything(4);
+            changeSchedule();
+            addAccess(below(Math.max(1, statements)), oneIn(3));
+        }
+    }
+
+    private void goAnyway() {
         if (oneIn(10)) {
             askAnything(from(1, 30));
         }
@@ -121,7 +183,7 @@ public final class RandomRuns {
     // ---- making nests
 
     private void addStatement() {
-        int depth = oneIn(60) ? from(-1, 5) : new int[] {1, 1, 2, 2, 2, 3}[below(6)];
+        int depth = oneIn(60) ? from(-1, 5) : isBig ? 3 : new int[] {1, 1, 2, 2, 2, 3}[below(6)];
         Object number = call("statement", depth);
         if (!(number instanceof Integer)) {
             return;
@@ -358,7 +420,7 @@ public final class RandomRuns {
             case 5 -> call("reuse", oneIn(20) ? from(-1, 1) + 5000 * below(2) : from(0, 20));
             case 6 -> call("layout", oneIn(20) ? from(-1, 4) : from(0, 3), oneIn(2));
             case 7 -> call("misses", oneIn(20) ? from(0, 17) : from(1, 5), oneIn(20) ? from(0, 65) : from(1, 8));
-            case 8 -> call("storage", oneIn(20) ? from(-1, 4) : from(0, 3));
+            case 8 -> call("storage", oneIn(20) || isBig ? 5 * below(2) - 1 : from(0, 3));
             case 9 -> call("messages", anyRow(), oneIn(20) ? from(0, 17) : from(2, 5));
             default -> call("cell", oneIn(20) ? from(-1, 4) : from(0, 3), cellNumber(6), cellNumber(5), oneIn(2));
         }
