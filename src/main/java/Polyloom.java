@@ -1873,6 +1873,7 @@ public final class Polyloom {
         private final int[] tree = new int[MOST_TOUCHES + 1];
         private final int[] lastTouch = new int[MOST_CELLS];
         private final int[] distances = new int[MOST_TOUCHES + 1];
+        private int touchLimit;
         private int touchCount;
         private int distanceCount;
         private long distanceSum;
@@ -1898,8 +1899,9 @@ public final class Polyloom {
         }
 
         private void measure(int[] order, int size, Cells cells) {
-            Arrays.fill(tree, 0);
-            Arrays.fill(distances, 0);
+            touchLimit = ACCESSES * size;
+            Arrays.fill(tree, 0, touchLimit + 1, 0);
+            Arrays.fill(distances, 0, touchLimit + 1, 0);
             Arrays.fill(lastTouch, 0, cells.size, 0);
             touchCount = 0;
             distanceCount = 0;
@@ -1931,7 +1933,7 @@ public final class Polyloom {
         }
 
         private void change(int at, int by) {
-            for (int x = Math.max(at, 1); x <= MOST_TOUCHES; x += x & -x) {
+            for (int x = Math.max(at, 1); x <= touchLimit; x += x & -x) {
                 tree[x] += by;
             }
         }
@@ -1946,7 +1948,7 @@ public final class Polyloom {
 
         private int touchesWithin(int distance) {
             int sum = 0;
-            for (int d = 0; d <= distance; d++) {
+            for (int d = 0; d <= distance && d <= touchLimit; d++) {
                 sum += distances[d];
             }
             return sum;
@@ -2010,6 +2012,7 @@ public final class Polyloom {
         private final int[] holder = new int[MOST_MODULUS];
         private final int[] gaps = new int[GAPS];
         private int gapCount;
+        private boolean isHopeless;
 
         /** Lists the writes, and the reads of what was written: 2 times the cell, 1 more for a read. */
         private void follow(int array, int[] order, int size, Cells cells) {
@@ -2038,7 +2041,8 @@ public final class Polyloom {
 
         private int leastModulus(Cells cells) {
             gapCount = 0;
-            for (int modulus = 1; modulus <= MOST_MODULUS; modulus++) {
+            isHopeless = false;
+            for (int modulus = 1; modulus <= MOST_MODULUS && !isHopeless; modulus++) {
                 if (!isGapDivided(modulus) && isEnough(modulus, cells)) {
                     return modulus;
                 }
@@ -2076,6 +2080,8 @@ public final class Polyloom {
         }
 
         private void keepGap(int gap) {
+            // Cells of one number are in each other's way with each modulus.
+            isHopeless = isHopeless || gap == 0;
             if (gapCount < GAPS) {
                 gaps[gapCount] = gap;
                 gapCount++;
