@@ -75,6 +75,9 @@ public final class RandomRuns {
         if (isOff || history.size() >= CALLS) {
             return null;
         }
+        if (args.length > 0 && oneIn(100)) {
+            makeExtreme(args);
+        }
         Object a = ask(FAST, fast, name, args);
         Object b = ask(SLOW, slow, name, args);
         history.add(name + Arrays.toString(args).replace('[', '(').replace(']', ')') + " ->" + b);
@@ -85,6 +88,15 @@ public final class RandomRuns {
             history.forEach(line -> System.out.println("    " + line));
         }
         return b;
+    }
+
+    private void makeExtreme(Object[] args) {
+        int x = below(args.length);
+        if (args[x] instanceof Integer) {
+            args[x] = new int[] {Integer.MIN_VALUE, Integer.MAX_VALUE, -1, 1 << 30}[below(4)];
+        } else if (args[x] instanceof Character) {
+            args[x] = (char) (oneIn(2) ? 0 : 65535);
+        }
     }
 
     private static Object ask(Map<String, Method> methods, Object loom, String name, Object[] args) {
