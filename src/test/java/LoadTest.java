@@ -2,6 +2,7 @@
 public final class LoadTest {
     public static void main(String[] args) {
         mostCells();
+        scatteredCells();
         mostTouches();
         mostPairs();
         mostLines();
@@ -39,6 +40,24 @@ public final class LoadTest {
             int read = 31 * (919 + 2 * 926 + 3 * 933) + 1;
             PromiseCheck.due("a cell", read % 10007, loom.cell(3, 9, 19, true));
         }
+    }
+
+    /** 8000 cells that are far from each other: (20 i + 3 j, 17 k - 5 j) of each array, each touched once. */
+    private static void scatteredCells() {
+        Polyloom loom = cuboid();
+        for (int array = 0; array < 4; array++) {
+            PromiseCheck.type(loom, 20, 3);
+            loom.access(0, array, array == 3, false);
+            PromiseCheck.second(loom, 0, 0, -5, 17);
+        }
+        loom.script('n', 0, 0, 0);
+        PromiseCheck.due("scattered cells of all", 8000, loom.footprint(0, 0));
+        PromiseCheck.due("scattered cells of an i", 800, loom.footprint(1, 9));
+        PromiseCheck.due("touches of scattered cells", 0, loom.reuse(5000));
+        PromiseCheck.due("misses of scattered cells", 8000, loom.misses(1, 64));
+        // (29, 2) is that of (1, 3, 1): 2902 modulo 1009 are 884.
+        PromiseCheck.due("a scattered cell", (31 * (884 + 2 * 891 + 3 * 898) + 1) % 10007, loom.cell(3, 29, 2, true));
+        PromiseCheck.due("a cell between", 2903 - 2 * 1009 + 21, loom.cell(3, 29, 3, true));
     }
 
     private static void mostTouches() {

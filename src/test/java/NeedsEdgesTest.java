@@ -18,6 +18,8 @@ public final class NeedsEdgesTest {
         promise27Refused();
         promise27Numbers();
         promise27OneIterator();
+        promise27OneNeed();
+        promise27ThreeIterators();
         promise27Rows();
         PromiseCheck.end("NeedsEdgesTest");
     }
@@ -351,6 +353,17 @@ public final class NeedsEdgesTest {
         PromiseCheck.due("band of j, i - j: i carried the rest", 1, loom.band(1));
         loom.script('s', 2, 1, 1);
         PromiseCheck.due("band of i, j, i", 3, loom.band(0));
+        // The first need alone, from (1, 1) to (1, 2), goes back by -j.
+        Polyloom first = TwinCheck.told(TwinCheck::stencil);
+        PromiseCheck.type(first, 0, 0, 0, 0, 1);
+        first.bound(0, 0, false);
+        PromiseCheck.type(first, 0, 0, 0, 0, 2);
+        first.bound(0, 1, false);
+        first.script('r', 1, 0, 0);
+        PromiseCheck.due("one need", 1, first.needs('f'));
+        PromiseCheck.due("band of i, -j with one need", 1, first.band(0));
+        PromiseCheck.due("band of -j with one need", 0, first.band(1));
+        PromiseCheck.due("the need that is broken", 0, first.broken());
     }
 
     /** What is written at (i, j) is read at (i + a, j + b) and at (i - a, j - b), behind all writes. */
@@ -420,6 +433,98 @@ public final class NeedsEdgesTest {
             PromiseCheck.due("its number with reads of i + " + x[0], x[1], loom.row(0, 0, 0));
             PromiseCheck.due("its size", 1, loom.row(0, 0, 5));
         }
+    }
+
+    private static void dueRows(Polyloom loom, String of, int[][] due) {
+        PromiseCheck.due("find()" + of, due.length, loom.find());
+        for (int row = 0; row < due.length; row++) {
+            for (int number = 0; number < due[row].length; number++) {
+                PromiseCheck.due("found row " + row + ", number " + number + of, due[row][number], loom.row(0, row, number));
+            }
+        }
+    }
+
+    /** One need that keeps a row from going back: at once, or once another one is carried. */
+    private static void promise27OneNeed() {
+        Polyloom one = new Polyloom();
+        one.statement(1);
+        one.parameter(2);
+        PromiseCheck.write(one, 0, 0, 1);
+        PromiseCheck.read(one, 0, 0, 1, 0, 0, 0, -1);
+        dueRows(one, " of one need", new int[][] {{1}});
+        one.parameter(1);
+        dueRows(one, " of none", new int[][] {{-1}});
+        // (0, 0), (1, 0) and (1, 1) need each other in turn: (1, 0), then (0, 1), which is carried first.
+        Polyloom two = new Polyloom();
+        two.statement(2);
+        two.parameter(2);
+        PromiseCheck.type(two, 1, -1);
+        two.guard(0, 0);
+        PromiseCheck.write(two, 0, 0, 1, 1);
+        PromiseCheck.read(two, 0, 0, 1, 1, 0, 0, -1);
+        PromiseCheck.due("i of need 0", 1, two.need(0, 'i'));
+        PromiseCheck.due("j of need 1", 1, two.need(1, 'j'));
+        dueRows(two, " of two needs", new int[][] {{0, 1}, {1, 0}});
+        // The other way round, (0, 0), (0, 1) and (1, 1): what was found once is found again.
+        Polyloom again = new Polyloom();
+        again.statement(2);
+        again.parameter(2);
+        PromiseCheck.type(again, -1, 1);
+        again.guard(0, 0);
+        PromiseCheck.write(again, 0, 0, 1, 1);
+        PromiseCheck.read(again, 0, 0, 1, 1, 0, 0, -1);
+        for (int times = 0; times < 3; times++) {
+            dueRows(again, " of two other needs, " + times, new int[][] {{0, 1}, {1, 0}});
+        }
+    }
+
+    /** What is written at (i, j, k) is read, behind all writes, at the points that are so much further. */
+    private static Polyloom further(int[][] differences) {
+        Polyloom loom = new Polyloom();
+        loom.statement(3);
+        loom.statement(3);
+        PromiseCheck.write(loom, 0, 0, 1);
+        PromiseCheck.second(loom, 0, 0, 10, 1);
+        for (int[] d : differences) {
+            PromiseCheck.read(loom, 1, 0, 1, 0, 0, 0, -d[0]);
+            PromiseCheck.second(loom, 1, 0, 10, 1, 0, -10 * d[1] - d[2]);
+        }
+        return loom;
+    }
+
+    private static void promise27ThreeIterators() {
+        // The differences of all needs, and the rows that are due for them.
+        int[][][][] due = {
+            {{{0, 0, 2}, {-1, -1, 1}, {1, 1, -2}}, {{-1, 1, 0}}},
+            {{{-2, -1, -2}, {0, 1, 2}, {1, 0, 0}}, {{0, 2, -1}}},
+            {{{-2, 0, 2}, {0, 1, -1}, {1, -1, 0}}, {{-1, -1, -1}}},
+            {{{-1, 0, 2}, {1, 0, -2}}, {{0, -1, 0}, {2, 0, 1}}},
+            {{{1, 0, 0}, {-1, 0, 0}, {2, 1, -2}}, {{0, 2, 1}, {0, 1, 0}}},
+            {{{-1, 0, 1}, {-2, -1, 1}, {2, 0, -2}}, {{-1, 1, -1}, {0, -1, 0}}},
+            {{{0, 0, 1}, {2, 0, -2}, {0, 0, -1}}, {{0, -1, 0}, {1, 0, 0}}},
+            {{{2, 0, 1}, {0, -1, -1}, {-2, 0, -1}}, {{0, -1, 0}, {-1, 0, 2}}},
+            {{{2, 1, 0}, {0, -1, 1}}, {{-1, 2, 2}, {0, 1, 1}, {0, -1, 0}}},
+            {{{1, -1, 0}, {-1, 0, -2}}, {{2, 2, -1}, {-1, -1, 0}, {0, -1, 0}}},
+            {{{-2, 1, 0}, {0, 1, -1}}, {{1, 2, 2}, {0, 1, 1}, {0, 0, -1}}},
+            {{{-2, 1, -2}, {0, 1, -1}}, {{-1, 2, 2}, {0, -1, -1}, {0, 0, -1}}},
+            {{{-1, 1, 0}, {1, 0, -2}}, {{2, 2, 1}, {1, 1, 0}, {-1, 0, 0}}},
+            {{{0, -1, 1}, {-2, 0, 1}}, {{1, 2, 2}, {0, 1, 1}, {0, -1, 0}}},
+            {{{1, -1, 0}, {0, 1, 2}}, {{2, 2, -1}, {1, 1, 0}, {0, -1, 0}}},
+            {{{-2, -1, 0}, {1, -1, 2}, {0, -1, 1}}, {{-1, 2, 2}, {0, -1, -1}, {0, -1, 0}}},
+            {{{1, 1, 2}, {0, -1, 2}, {0, -1, -2}}, {{1, 0, 0}, {0, -1, 0}, {0, 0, -1}}},
+            {{{0, -1, 1}, {-1, -1, -2}, {-1, -1, -1}}, {{2, -1, -1}, {-1, 0, 0}, {0, -1, 0}}},
+            {{{0, 0, 0}}, {{-1, 0, 0}, {0, -1, 0}, {0, 0, -1}}},
+            {{{1, 1, 2}, {2, -1, 2}, {1, 0, 2}}, {{2, 0, -1}, {0, 1, 0}, {1, 0, 0}}},
+            {{{-2, 0, 2}, {1, 1, -2}}, {{-1, -1, -1}, {0, 1, 0}, {-1, 0, 0}}},
+            {{{2, 0, -2}, {-1, -1, 2}, {1, 1, 0}}, {{1, -1, 0}, {0, 0, 1}, {0, 1, 0}}},
+            {{{-2, 1, 0}, {-1, 1, -2}}, {{1, 2, 0}, {0, 0, -1}, {0, 1, 0}}},
+            {{{0, 1, 2}, {-2, 0, 1}}, {{0, 1, 0}, {1, 0, 2}, {0, 0, 1}}},
+        };
+        for (int[][][] x : due) {
+            dueRows(further(x[0]), " of the needs " + java.util.Arrays.deepToString(x[0]), x[1]);
+        }
+        int[][] none = {{1, 0, 0}, {-2, 0, 1}, {0, 0, -1}};
+        dueRows(further(none), " of what goes all ways but by j", new int[][] {{0, -1, 0}});
     }
 
     /** As many rows as the greatest depth; a number is 0 for what a statement has not; what was changed is gone. */

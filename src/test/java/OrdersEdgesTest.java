@@ -328,9 +328,12 @@ public final class OrdersEdgesTest {
         }
     }
 
-    /** Each writes, of its own number, what it is told, and then both are read. */
+    /** Two statements write a cell each: of i, the parameter and 1 so many times, first and second; a third reads both. */
     private static Polyloom apart(int parameter, int[] first, int[] second) {
-        Polyloom loom = new Polyloom();
+        return TwinCheck.told(l -> tellApart(l, parameter, first, second));
+    }
+
+    private static void tellApart(Polyloom loom, int parameter, int[] first, int[] second) {
         loom.parameter(parameter);
         for (int s = 0; s < 3; s++) {
             loom.statement(1);
@@ -343,14 +346,13 @@ public final class OrdersEdgesTest {
             PromiseCheck.read(loom, 2, 0, of[s][0], 0, 0, of[s][1], of[s][2]);
             PromiseCheck.second(loom, 2, of[s][3], 0, 0, of[s][4], of[s][5]);
         }
-        return loom;
     }
 
     private static void promise36Refused() {
         // (0, 100) and (1, 0) have one number; (0, 101) and (1, 0) are 1 apart.
-        Polyloom same = apart(5, new int[] {0, 0, 0, 0, 20, 0}, new int[] {0, 0, 1, 0, 0, 0});
-        PromiseCheck.refused("storage of two cells of one number", TwinCheck.ELEMENT, () -> same.storage(0));
-        PromiseCheck.due("storage of another array", 1, same.storage(1));
+        TwinCheck.Telling same = l -> tellApart(l, 5, new int[] {0, 0, 0, 0, 20, 0}, new int[] {0, 0, 1, 0, 0, 0});
+        TwinCheck.refused("storage of two cells of one number", TwinCheck.ELEMENT, same, l -> l.storage(0));
+        TwinCheck.asked("storage of another array", 1, same, l -> l.storage(1));
         Polyloom next = apart(5, new int[] {0, 0, 0, 0, 20, 1}, new int[] {0, 0, 1, 0, 0, 0});
         PromiseCheck.due("storage of two cells that are 1 apart", 2, next.storage(0));
     }
@@ -362,9 +364,8 @@ public final class OrdersEdgesTest {
             Polyloom loom = apart(4, new int[] {0, 0, 0, 0, 0, 0}, new int[] {0, 0, 0, 0, 0, x[0]});
             PromiseCheck.due("storage of two cells that are " + x[0] + " apart", x[1], loom.storage(0));
         }
-        // 100 times 2 * 3 * 7 and more: 4200 + 840 * x is divided by 1 to 8, and so on.
+        // At i = 20 the other cell is (24, 120) or (-24, -120): 2520 is divided by 1 to 10.
         Polyloom wide = apart(21, new int[] {0, 0, 0, 0, 0, 0}, new int[] {1, 0, 4, 6, 0, 0});
-        // (24, 120) is 2520, which 1 to 10 divide.
         PromiseCheck.due("storage of two cells that are 2520 apart", 11, wide.storage(0));
         Polyloom below = apart(21, new int[] {0, 0, 0, 0, 0, 0}, new int[] {-1, 0, -4, -6, 0, 0});
         PromiseCheck.due("storage of two cells that are 2520 apart, below 0", 11, below.storage(0));
@@ -445,6 +446,19 @@ public final class OrdersEdgesTest {
         loom.script('x', 0, 1, 0);
         PromiseCheck.due("messages by j", 3, loom.messages(0, 16));
         PromiseCheck.due("messages by i, for each j", 9, loom.messages(1, 16));
+        // By i modulo 2, for each j: from even to odd and from odd to even ones, wherever the points of a j come first.
+        Polyloom turns = new Polyloom();
+        turns.statement(2);
+        PromiseCheck.write(turns, 0, 0, 1);
+        PromiseCheck.second(turns, 0, 0, 1);
+        PromiseCheck.read(turns, 0, 0, 1, 0, 0, 0, -1);
+        PromiseCheck.second(turns, 0, 0, 1);
+        turns.script('x', 0, 1, 0);
+        PromiseCheck.due("messages by i modulo 2, for each j", 8, turns.messages(1, 2));
+        PromiseCheck.due("messages by i modulo 3, for each j", 12, turns.messages(1, 3));
+        PromiseCheck.due("messages by j modulo 2", 0, turns.messages(0, 2));
+        turns.script('x', 0, 2, 0);
+        PromiseCheck.due("messages by i modulo 2 behind a row of 0", 2, turns.messages(1, 2));
         // An a or an o sends nothing.
         Polyloom none = new Polyloom();
         none.statement(1);

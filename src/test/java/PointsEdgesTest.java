@@ -276,10 +276,14 @@ public final class PointsEdgesTest {
             TwinCheck.refused("first of too many", TwinCheck.STATE, TwinCheck::crowded, l -> l.first(x));
             TwinCheck.refused("first of none, but of too many numbers", TwinCheck.STATE, TwinCheck::crowdedWithoutPoints, l -> l.first(x));
         }
+        TwinCheck.refused("first of no points", TwinCheck.ELEMENT, l -> {
+            TwinCheck.stencil(l);
+            l.parameter(1);
+        }, l -> l.first(3));
         Polyloom loom = new Polyloom();
         loom.statement(1);
         loom.parameter(0);
-        PromiseCheck.refused("first of no points", TwinCheck.ELEMENT, () -> loom.first(3));
+        PromiseCheck.refused("first of none", TwinCheck.ELEMENT, () -> loom.first(3));
         loom.statement(1);
         PromiseCheck.range(loom, 1, 0, 5, 5);
         PromiseCheck.due("the first of one point", 1, loom.first(3));

@@ -23,6 +23,7 @@ public final class TellingEdgesTest {
         promise9Full();
         promise9Second();
         promise9Order();
+        refusedOfMuchTold();
         promise10Unknown();
         promise11Reduction();
         PromiseCheck.end("TellingEdgesTest");
@@ -285,14 +286,17 @@ public final class TellingEdgesTest {
             PromiseCheck.range(loom, 0, 0, x[0], x[1]);
             PromiseCheck.due("count from " + x[0] + " to " + x[1], x[2], loom.count(0));
         }
-        for (int turn = 0; turn < 2; turn++) {
-            Polyloom loom = new Polyloom();
-            loom.statement(1);
-            PromiseCheck.range(loom, 0, 0, turn == 0 ? -2 : 1, turn == 0 ? 6 : 3);
-            PromiseCheck.range(loom, 0, 0, turn == 0 ? 1 : -2, turn == 0 ? 3 : 6);
-            PromiseCheck.due("count from 1 to 3, whichever is told first", 3, loom.count(0));
-            PromiseCheck.due("the first", 1, loom.point(0, 0, 0));
-            PromiseCheck.due("the last", 3, loom.point(0, 2, 0));
+        for (int iterator = 0; iterator < 3; iterator++) {
+            for (int turn = 0; turn < 2; turn++) {
+                Polyloom loom = new Polyloom();
+                loom.statement(3);
+                loom.parameter(1);
+                PromiseCheck.range(loom, 0, iterator, turn == 0 ? -2 : 1, turn == 0 ? 6 : 3);
+                PromiseCheck.range(loom, 0, iterator, turn == 0 ? 1 : -2, turn == 0 ? 3 : 6);
+                PromiseCheck.due("count from 1 to 3, whichever is told first", 3, loom.count(0));
+                PromiseCheck.due("the first", 1, loom.point(0, 0, iterator));
+                PromiseCheck.due("the last", 3, loom.point(0, 2, iterator));
+            }
         }
         Polyloom lower = new Polyloom();
         lower.statement(1);
@@ -569,6 +573,38 @@ public final class TellingEdgesTest {
         TwinCheck.refused("nothing typed for a second number", TwinCheck.UNSUPPORTED, reads(1, true), l -> l.access(0, 0, true, true));
         TwinCheck.refused("no access told", TwinCheck.UNSUPPORTED, reads(0, false, 1), l -> l.access(0, 0, true, true));
         TwinCheck.refused("nothing typed, no access told", TwinCheck.UNSUPPORTED, reads(0, false), l -> l.access(0, 9, true, true));
+    }
+
+    /** The same refusals by looms of which much was told, that nothing of it is lost: flags, places, rows, numbers typed. */
+    private static void refusedOfMuchTold() {
+        TwinCheck.Telling cleared = l -> {
+            TwinCheck.mixed(l);
+            l.clearRow();
+        };
+        TwinCheck.Telling fullOfZero = l -> {
+            TwinCheck.full(l);
+            l.clearRow();
+            PromiseCheck.type(l, 0, 0, 0, 0, 1);
+        };
+        for (int side = 0; side < 2; side++) {
+            boolean is = side == 0;
+            TwinCheck.refused("bound of three statements", TwinCheck.INDEX, TwinCheck::mixed, l -> l.bound(3, 0, is));
+            TwinCheck.refused("bound by i and j of i", TwinCheck.ARGUMENT, TwinCheck::mixed, l -> l.bound(0, 0, is));
+            TwinCheck.refused("bound by i and j of j", TwinCheck.ARGUMENT, TwinCheck::mixed, l -> l.bound(0, 1, is));
+            TwinCheck.refused("bound by nothing", TwinCheck.UNSUPPORTED, cleared, l -> l.bound(0, 1, is));
+            TwinCheck.refused("a third bound", TwinCheck.STATE, fullOfZero, l -> l.bound(0, 0, is));
+            TwinCheck.refused("an access of three statements", TwinCheck.INDEX, TwinCheck::mixed, l -> l.access(3, 0, is, false));
+            TwinCheck.refused("an access of the array 4", TwinCheck.ARGUMENT, TwinCheck::mixed, l -> l.access(0, 4, is, false));
+            TwinCheck.refused("an access by nothing", TwinCheck.UNSUPPORTED, cleared, l -> l.access(0, 0, is, false));
+            TwinCheck.refused("a second number by nothing", TwinCheck.UNSUPPORTED, cleared, l -> l.access(0, 0, is, true));
+            TwinCheck.refused("a second number of no access", TwinCheck.UNSUPPORTED, fullOfZero, l -> l.access(4, 0, is, true));
+        }
+        TwinCheck.refused("a fourth read", TwinCheck.STATE, fullOfZero, l -> l.access(0, 0, false, false));
+        TwinCheck.refused("guard of three statements", TwinCheck.INDEX, TwinCheck::mixed, l -> l.guard(3, 0));
+        TwinCheck.refused("guard by i and j of i", TwinCheck.ARGUMENT, TwinCheck::mixed, l -> l.guard(1, 0));
+        TwinCheck.refused("guard modulo 1", TwinCheck.ARGUMENT, TwinCheck::mixed, l -> l.guard(0, 1));
+        TwinCheck.refused("guard by nothing", TwinCheck.UNSUPPORTED, cleared, l -> l.guard(0, 0));
+        TwinCheck.refused("a third guard", TwinCheck.STATE, fullOfZero, l -> l.guard(0, 0));
     }
 
     private static void promise10Unknown() {

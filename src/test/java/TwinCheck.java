@@ -32,11 +32,10 @@ final class TwinCheck {
         return loom;
     }
 
-    /** The call has to be refused by exactly this exception, twice, and to leave nothing behind. */
+    /** The call has to be refused by exactly this exception, and to leave nothing behind. */
     static void refused(String what, Class<? extends RuntimeException> want, Telling telling, Question call) {
         Polyloom one = told(telling);
         PromiseCheck.refused(what, want, () -> call.ask(one));
-        PromiseCheck.refused(what + ", once more", want, () -> call.ask(one));
         alike("behind " + what, telling, one);
     }
 
@@ -44,7 +43,6 @@ final class TwinCheck {
     static void asked(String what, Object want, Telling telling, Question call) {
         Polyloom one = told(telling);
         PromiseCheck.due(what, want, call.ask(one));
-        PromiseCheck.due(what + ", once more", want, call.ask(one));
         alike("behind " + what, telling, one);
     }
 
