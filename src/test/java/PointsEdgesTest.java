@@ -118,8 +118,8 @@ public final class PointsEdgesTest {
         TwinCheck.refused("period with too many numbers of iterators", TwinCheck.ELEMENT, TwinCheck::crowded, l -> l.period(0));
     }
 
-    /** i of 20, j of 400 and 401, k from -5 j to 20 j - 60 and the parameter and more: 1, 2, and many numbers. */
-    private static TwinCheck.Telling wide(int more) {
+    /** i of 20, j of 400 and 401, k from so many times j to what is told: 1, 2, and many numbers. */
+    private static TwinCheck.Telling deep(int timesJ, int... last) {
         return l -> {
             l.statement(3);
             PromiseCheck.range(l, 0, 0, 20, 20);
@@ -127,37 +127,30 @@ public final class PointsEdgesTest {
             l.bound(0, 1, true);
             PromiseCheck.type(l, 20, 0, 0, 0, 1);
             l.bound(0, 1, false);
-            PromiseCheck.type(l, 0, -5);
+            PromiseCheck.type(l, 0, timesJ);
             l.bound(0, 2, true);
-            PromiseCheck.type(l, -1, 20, 0, 1, more - 20);
+            PromiseCheck.type(l, last);
             l.bound(0, 2, false);
         };
     }
 
-    /** The same with k from -4 j on: 1, 2 and 801 times 24 numbers, two times 20 i and more, and 2. */
-    private static TwinCheck.Telling even(int times, int more) {
-        return l -> {
-            l.statement(3);
-            PromiseCheck.range(l, 0, 0, 20, 20);
-            PromiseCheck.type(l, 20);
-            l.bound(0, 1, true);
-            PromiseCheck.type(l, 20, 0, 0, 0, 1);
-            l.bound(0, 1, false);
-            PromiseCheck.type(l, 0, -4);
-            l.bound(0, 2, true);
-            PromiseCheck.type(l, times, 20, 0, 0, more);
-            l.bound(0, 2, false);
-        };
+    /** k from -5 j to 20 j - 60 and the parameter 25: 1 + 2 + 801 * 25 + 2 - 2 * 15 are 20000; at 26 there would be 2 more. */
+    private static TwinCheck.Telling wide(int more) {
+        return deep(-5, -1, 20, 0, 1, more - 20);
+    }
+
+    /** k from -4 j to 20 j + 380 and more: 1 + 2 + 801 * 24 + 2 + 2 * 380 are 19989, and twice what is more. */
+    private static TwinCheck.Telling even(int more) {
+        return deep(-4, 19, 20, 0, 0, more);
     }
 
     private static void promise14GoneThrough() {
-        // At the parameter 25: 1 + 2 + 801 * 25 + 2 - 2 * 15 are 20000; at the parameter 26 there would be 2 more.
         TwinCheck.asked("period with 20000 numbers at 25", 1, wide(0), l -> l.period(0));
         TwinCheck.refused("period with 20002 numbers at 25", TwinCheck.ELEMENT, wide(1), l -> l.period(0));
-        TwinCheck.asked("period with 19999 numbers", 1, even(19, 5), l -> l.period(0));
-        TwinCheck.refused("period with 20001 numbers", TwinCheck.ELEMENT, even(19, 6), l -> l.period(0));
+        TwinCheck.asked("period with 19999 numbers", 1, even(5), l -> l.period(0));
+        TwinCheck.refused("period with 20001 numbers", TwinCheck.ELEMENT, even(6), l -> l.period(0));
         // More than 2000 points are not too many for a period, nor what other statements go through.
-        Polyloom two = TwinCheck.told(even(19, 5));
+        Polyloom two = TwinCheck.told(even(5));
         two.statement(3);
         PromiseCheck.due("period ahead of another one", 1, two.period(0));
         PromiseCheck.due("period behind another one", 1, two.period(1));

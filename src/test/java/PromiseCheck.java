@@ -61,19 +61,7 @@ final class PromiseCheck {
 
     /** Array 0 at (i, j) out of (i - 1, j) and (i, j - 1), for i and j from 1 to the parameter less 1. */
     static Polyloom stencil() {
-        Polyloom loom = new Polyloom();
-        loom.statement(2);
-        type(loom, 0, 0, 0, 0, 1);
-        loom.bound(0, 0, true);
-        type(loom, 0, 0, 0, 0, 1);
-        loom.bound(0, 1, true);
-        write(loom, 0, 0, 1);
-        second(loom, 0, 0, 1);
-        read(loom, 0, 0, 1, 0, 0, 0, -1);
-        second(loom, 0, 0, 1);
-        read(loom, 0, 0, 1);
-        second(loom, 0, 0, 1, 0, 0, -1);
-        return loom;
+        return TwinCheck.told(TwinCheck::stencil);
     }
 
     /** i from -20 to 3, j to 20 i + 100 and k to 20 j + 100: too many. */

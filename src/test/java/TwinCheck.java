@@ -242,7 +242,7 @@ final class TwinCheck {
         PromiseCheck.type(loom, 1, 0, 0, 0, -2);
     }
 
-    /** The stencil of 9 points and 12 needs. */
+    /** Array 0 at (i, j) out of (i - 1, j) and (i, j - 1), for i and j from 1 to 3: 9 points and 12 needs. */
     static void stencil(Polyloom loom) {
         loom.statement(2);
         PromiseCheck.type(loom, 0, 0, 0, 0, 1);
