@@ -246,10 +246,23 @@ public final class RandomRuns {
                 call("access", s, array, side == 0, true);
             }
         }
+        if (oneIn(4)) {
+            readAgain(s, array, a, b);
+        }
         if (oneIn(2)) {
             addAccess(s, false);
         }
         call("reduction", s, true);
+    }
+
+    /** The sum's own cell, or one near it, read once more: what comes of that read is no part of the sum. */
+    private void readAgain(int s, int array, int[] a, int[] b) {
+        type(a);
+        call("access", s, array, false, false);
+        if (oneIn(2)) {
+            type(b);
+            call("access", s, array, false, true);
+        }
     }
 
     private void addBound(int s) {
